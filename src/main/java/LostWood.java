@@ -950,10 +950,13 @@ public final class LostWood {
         }
 
         int spread(int set, int wind) {
+            if (!isWind(wind)) {
+                return set;
+            }
             int out = 0;
-            for (int p = 0; p < places; p++) {
+            for (int p = 0; p < places && p < MOST_PLACES; p++) {
                 if ((set >> p & 1) != 0) {
-                    out |= 1 << after(p, wind);
+                    out |= 1 << ways[p * WINDS + wind];
                 }
             }
             return out;
@@ -969,8 +972,8 @@ public final class LostWood {
 
         int showing(int set, int mark) {
             int out = 0;
-            for (int p = 0; p < places; p++) {
-                if ((set >> p & 1) != 0 && sign(p) == mark) {
+            for (int p = 0; p < places && p < MOST_PLACES; p++) {
+                if ((set >> p & 1) != 0 && signs[p] == mark) {
                     out |= 1 << p;
                 }
             }
@@ -1547,8 +1550,8 @@ public final class LostWood {
             if (shortest == NONE) {
                 return NONE;
             }
+            // When the first goal comes up, all that are as near have been met already.
             int least = MOST_PLACES;
-            seek(set, NEVER);
             for (int i = 0; i < size && i < found.length; i++) {
                 if (Integer.bitCount(found[i]) == 1 && lengthTo(i) == shortest) {
                     least = Math.min(least, Integer.numberOfTrailingZeros(found[i]));

@@ -196,6 +196,22 @@ public final class PromiseTest {
         fault(w + "lesson bare 0;".repeat(5), 0, -1);
         fault(w + "lesson bare 0;".repeat(6), 3, 14 + 5 * 14);
         fault(w + "mark 0 99 ?", 2, 21);
+        fault("wood placesz 3;", 1, 5);
+        fault("awood places 3;", 1, 0);
+        fault(w + "pupil in 0 lies 3 thinks 3;", 2, 39);
+        fault(w + "lesson shut 0;?", 1, 27);
+        fault(w + "way 0 n to 1 back 2;", 1, 32);
+        fault(w + "mark 0 1:", 1, 22);
+        fault(w + "mark 0 1/", 1, 22);
+        fault(w + "mark 0 1;`", 1, 23);
+        fault(w + "mark 0 1;{", 1, 23);
+        fault(w + "mark 0 1;\r", 1, 23);
+        fault(" ".repeat(1000), 0, -1);
+        fault("z".repeat(1000), 1, 0);
+        fault("wood places " + "0".repeat(985) + "10;", 0, -1);
+        fault("wood places " + "0".repeat(985) + "110", 2, 12);
+        fault("wood places " + "0".repeat(986) + "10", 1, 1000);
+        fault("wood places 3" + " ".repeat(986) + ";", 0, -1);
     }
 
     private static void laterLinesStrike() {
