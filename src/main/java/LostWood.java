@@ -70,11 +70,10 @@ public final class LostWood {
     }
 
     public int wood() {
-        boolean good = reader.parse();
-        reader.length = 0;
-        if (!good) {
+        if (!reader.parse()) {
             return FAULTY;
         }
+        reader.length = 0;
         here.copyFrom(reader.draft);
         party.assemble(here);
         plans.ready = false;

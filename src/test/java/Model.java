@@ -228,17 +228,16 @@ public final class Model {
     }
 
     public int wood() {
-        String text = tape;
-        tape = "";
         faultKind = 0;
         faultPlace = -1;
         try {
-            wood = parse(text);
+            wood = parse(tape);
         } catch (Fault f) {
             faultKind = f.kind;
             faultPlace = f.place;
             return -4;
         }
+        tape = "";
         steps = new ArrayList<>();
         return wood == null ? 0 : wood.lines;
     }
