@@ -140,11 +140,7 @@ public final class PromiseTest {
     }
 
     private static void fault(String text, int kind, int place) {
-        LostWood x = new LostWood();
-        Support.tell(x, text);
-        due("4 wood() of '" + text + "'", x.wood(), kind == 0 ? x.count(5) : -4);
-        due("5 fault(0) of '" + text + "'", x.fault(0), kind);
-        due("5 fault(1) of '" + text + "'", x.fault(1), place);
+        Support.fault(text, kind, place);
     }
 
     private static void faultsOfLines() {

@@ -49,6 +49,15 @@ final class Support {
         return x;
     }
 
+    /** A text's FAULT and its place, 0 and NONE without. */
+    static void fault(String text, int kind, int place) {
+        LostWood x = new LostWood();
+        due("3 bytes of '" + text + "'", tell(x, text), text.length());
+        due("4 wood() of '" + text + "'", x.wood(), kind == 0 ? x.count(5) : -4);
+        due("5 fault(0) of '" + text + "'", x.fault(0), kind);
+        due("5 fault(1) of '" + text + "'", x.fault(1), place);
+    }
+
     static void fill(LostWood x, int slot, int... numbers) {
         x.row(slot, 0, numbers.length);
         for (int i = 0; i < numbers.length; i++) {
