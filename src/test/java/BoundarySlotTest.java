@@ -229,6 +229,7 @@ public final class BoundarySlotTest {
         gone.lead(0, 0, 9);
         gone.marks(5, 5);
         gone.goes(3, 1);
+        due("63 another PLAN", gone.plan(0b0000110000), 0);
         due("63 back", gone.back(2), 0);
         due("63 a PLAN", gone.plan(0b0000110000), 4);
         LostWood kept = Edges.full();
