@@ -126,9 +126,13 @@ final class Edges {
         }
     }
 
+    /** Some 310 calls, so that with its making and what is done to it an object stays below 512. */
     private static List<Integer> probe(LostWood x) {
         List<Integer> out = new ArrayList<>();
-        tellState(x, out);
+        tellCounts(x, out);
+        tellWood(x, out, 4);
+        tellSlots(x, out);
+        tellPupils(x, out);
         for (int n = 0; n < 60; n++) {
             int left = x.undo();
             out.add(left);
@@ -139,26 +143,37 @@ final class Edges {
         }
         for (int k = 2; k >= 0; k--) {
             out.add(x.back(k));
-            tellState(x, out);
+            out.add(x.count(1));
+            out.add(x.count(7));
+            tellWood(x, out, 2);
+            tellPupils(x, out);
         }
         out.add(x.wood());
-        tellState(x, out);
+        tellCounts(x, out);
+        tellWood(x, out, 4);
+        tellPupils(x, out);
         return out;
     }
 
-    private static void tellState(LostWood x, List<Integer> out) {
+    private static void tellCounts(LostWood x, List<Integer> out) {
         for (int what = 0; what <= 8; what++) {
             out.add(x.count(what));
         }
         out.add(x.fault(0));
         out.add(x.fault(1));
-        for (int p = 0; p < x.count(0); p++) {
+    }
+
+    private static void tellWood(LostWood x, List<Integer> out, int winds) {
+        int places = x.count(0);
+        for (int p = 0; p < places; p++) {
             out.add(x.mark(p));
-            for (int wind = 0; wind < 4; wind++) {
+            for (int wind = 0; wind < winds; wind++) {
                 out.add(x.leads(p, wind));
             }
         }
-        tellPupils(x, out);
+    }
+
+    private static void tellSlots(LostWood x, List<Integer> out) {
         for (int slot = 0; slot < 4; slot++) {
             out.add(x.would(slot, 3));
             out.add(x.read(slot));
@@ -167,7 +182,8 @@ final class Edges {
     }
 
     private static void tellPupils(LostWood x, List<Integer> out) {
-        for (int p = 0; p < x.count(3); p++) {
+        int pupils = x.count(3);
+        for (int p = 0; p < pupils; p++) {
             out.add(x.where(p));
             out.add(x.thinks(p));
             out.add(x.pupil(p, 0));

@@ -24,7 +24,7 @@ public final class RoomTest {
         LostWood x = Support.wood(text.toString());
         x.row(0, 3, 60);
         int sum = 0;
-        for (int i = 0; i < 480; i++) {
+        for (int i = 0; i < 420; i++) {
             sum += dear(x, i);
         }
         long took = System.currentTimeMillis() - began;
