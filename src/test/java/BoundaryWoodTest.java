@@ -18,6 +18,8 @@ public final class BoundaryWoodTest {
         tells();
         bare();
         gather();
+        gatherEachSet();
+        searchesLeaveNoTrace();
         meet();
         meetLate();
         readAsked();
@@ -76,6 +78,13 @@ public final class BoundaryWoodTest {
         due("30 the worst mark", x.plan(0b0000000111), 1);
         due("30 from the middle", x.plan(0b0000110000), 4);
         due("30 all", x.plan(1023), 7);
+        x.marks(0, 0);
+        due("30 with the first PLACE", x.plan(3), 1);
+        due("31 with the first PLACE", x.first(3), 3);
+        x.marks(9, 0);
+        due("30 with the last PLACE", x.plan(3 << 8), 1);
+        due("30 with all PLACES", x.plan(1023), 9);
+        due("31 with all PLACES", x.first(1023), 1);
         LostWood two = Support.wood(Edges.TWO);
         due("30 alone", two.plan(1), 0);
         due("30 there is none", two.plan(3), -1);
@@ -255,6 +264,44 @@ public final class BoundaryWoodTest {
         due("39 there is none", two.gather(3), -1);
         Edges.winds("40 there is none", v -> two.gathers(3, v));
         due("41 there is none", two.roundabout(3), -1);
+    }
+
+    /** In a row of ten all are driven against one end or the other, whichever is nearer. */
+    private static void gatherEachSet() {
+        LostWood x = Edges.ten();
+        for (int set = 1023; set >= 1; set--) {
+            if (set % 200 == 0) {
+                x = Edges.ten();
+            }
+            int west = Integer.numberOfTrailingZeros(set);
+            int east = 31 - Integer.numberOfLeadingZeros(set);
+            int steps = west == east ? 0 : Math.min(east, 9 - west);
+            due("41 SET " + set, x.roundabout(set), west == east ? west : east <= 9 - west ? 0 : 9);
+            due("39 SET " + set, x.gather(set), steps);
+        }
+    }
+
+    private static void searchesLeaveNoTrace() {
+        LostWood x = Support.wood("wood places 3;way 0 n to 1;mark 2 1;");
+        due("39 there is none", x.gather(7), -1);
+        due("37 itself, behind it", x.bares(2, 2), 0);
+        due("39 there is none", x.gather(7), -1);
+        due("38 itself, behind it", x.bared(2, 2), 0);
+        LostWood y = Edges.ten();
+        y.gather(1023);
+        due("37 itself, behind a long one", y.bares(9, 9), 0);
+        y.gather(1023);
+        due("33 itself, behind a long one", y.alike(9, 9), 1);
+        y.marks(0, 0);
+        y.gather(1023);
+        due("38 one mark, behind a long one", y.bared(1, 2), 512);
+        // From 0 and 1 four SETS come up, the last of them one PLACE; from 8 and 9 three.
+        LostWood z = Support.wood("wood places 10;way 0 n to 2;way 1 n to 3;way 0 e to 4;way 1 e to 5;way 0 s to 6;way 1 s to 7;"
+                + "way 1 w to 0;way 8 n to 9;way 8 e to 7;way 9 e to 8;way 8 s to 6;way 9 s to 7;");
+        due("41 the last of four", z.roundabout(0b11), 0);
+        due("41 the first of three, behind it", z.roundabout(0b11 << 8), 9);
+        due("40 the last of four", z.gathers(0b11, 0), 3);
+        due("40 the first of three", z.gathers(0b11 << 8, 0), 0);
     }
 
     private static void meet() {
