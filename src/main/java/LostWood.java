@@ -36,8 +36,8 @@ public final class LostWood {
     private final Party party = new Party();
     private final Walker walker = new Walker();
     private final Rows rows = new Rows();
-    private final Minds minds = new Minds(here);
-    private final Sets sets = new Sets(here);
+    private final Minds minds = new Minds();
+    private final Sets sets = new Sets();
     private final Plans plans = new Plans();
     private final Courses courses = new Courses();
     private final Travel travel = new Travel();
@@ -334,7 +334,7 @@ public final class LostWood {
         if (!arePlaces(place, other)) {
             return NO_SUCH;
         }
-        sets.seek(1 << place | 1 << other, Sets.UNLIKE);
+        sets.seek(here, 1 << place | 1 << other, Sets.UNLIKE);
         return sets.goalLength();
     }
 
@@ -342,7 +342,7 @@ public final class LostWood {
         if (!arePlaces(place, other)) {
             return NO_SUCH;
         }
-        sets.seek(1 << place | 1 << other, Sets.UNLIKE);
+        sets.seek(here, 1 << place | 1 << other, Sets.UNLIKE);
         return sets.goalWind(i);
     }
 
@@ -360,7 +360,7 @@ public final class LostWood {
         if (!here.hasSet(set)) {
             return NO_SUCH;
         }
-        sets.seek(set, Sets.SINGLE);
+        sets.seek(here, set, Sets.SINGLE);
         return sets.goalLength();
     }
 
@@ -368,7 +368,7 @@ public final class LostWood {
         if (!here.hasSet(set)) {
             return NO_SUCH;
         }
-        sets.seek(set, Sets.SINGLE);
+        sets.seek(here, set, Sets.SINGLE);
         return sets.goalWind(i);
     }
 
@@ -376,7 +376,7 @@ public final class LostWood {
         if (!here.hasSet(set)) {
             return NO_SUCH;
         }
-        return sets.leastGathered(set);
+        return sets.leastGathered(here, set);
     }
 
     public int meet(int place, int other) {
@@ -742,23 +742,23 @@ public final class LostWood {
             return false;
         }
         minds.aimAt(walker.turn, aim, least);
-        minds.explore(walker.at * SETS + walker.thought);
+        minds.explore(here, walker.at * SETS + walker.thought);
         return true;
     }
 
     private boolean lookSame(int place, int other) {
-        sets.seek(1 << place | 1 << other, Sets.UNLIKE);
+        sets.seek(here, 1 << place | 1 << other, Sets.UNLIKE);
         return sets.goal == NONE;
     }
 
     private int leastBare(int place, int other) {
-        sets.seek(1 << place | 1 << other, Sets.NEVER);
+        sets.seek(here, 1 << place | 1 << other, Sets.NEVER);
         int marked = here.marked();
         // With no mark left all are ALIKE, so this one always does.
         int best = marked;
         for (int bare = 0; bare < marked; bare++) {
             boolean fewer = Integer.bitCount(bare) < Integer.bitCount(best);
-            if ((bare & ~marked) == 0 && fewer && sets.allShowOne(bare)) {
+            if ((bare & ~marked) == 0 && fewer && sets.allShowOne(here, bare)) {
                 best = bare;
             }
         }
@@ -1001,6 +1001,7 @@ public final class LostWood {
         private static final int NUMBER = 2;
         private static final int SIGN = 3;
         private static final int WRONG = 4;
+        private static final int BLANK = 5;
 
         private static final int MISPLACED = 1;
         private static final int OUT_OF_BOUNDS = 2;
@@ -1018,6 +1019,7 @@ public final class LostWood {
         private int kind;
         private int from;
         private int behind;
+        /** What a NUMBER tells; behind any other TOKEN it means nothing. */
         private int number;
         /** The number, PLACE or WIND taken last. */
         private int taken;
@@ -1050,48 +1052,34 @@ public final class LostWood {
             return i >= 0 && i < length && i < tape.length ? tape[i] : 0;
         }
 
-        private static boolean isBlank(int c) {
-            return c == 32 || c == 10;
-        }
-
-        private static boolean isLetter(int c) {
-            return c >= 'a' && c <= 'z';
-        }
-
-        private static boolean isDigit(int c) {
-            return c >= '0' && c <= '9';
+        /** Which kind of TOKEN a byte begins or goes on with. */
+        private int kindAt(int i) {
+            if (i < 0 || i >= length || i >= tape.length) {
+                return END;
+            }
+            int c = tape[i];
+            if (c == 32 || c == 10) {
+                return BLANK;
+            }
+            if (c >= 'a' && c <= 'z') {
+                return WORD;
+            }
+            if (c >= '0' && c <= '9') {
+                return NUMBER;
+            }
+            return c == ';' ? SIGN : WRONG;
         }
 
         private void advance() {
             from = behind;
-            for (int n = 0; n < MOST_BYTES && isBlank(byteAt(from)); n++) {
+            for (int n = 0; n < MOST_BYTES && kindAt(from) == BLANK; n++) {
                 from++;
             }
-            behind = from + 1;
-            int c = byteAt(from);
-            if (from >= length) {
-                kind = END;
-                behind = from;
-            } else if (isLetter(c)) {
-                passWord();
-            } else if (isDigit(c)) {
-                passNumber();
-            } else {
-                kind = c == ';' ? SIGN : WRONG;
-            }
-        }
-
-        private void passWord() {
-            kind = WORD;
-            for (int n = 0; n < MOST_BYTES && isLetter(byteAt(behind)); n++) {
-                behind++;
-            }
-        }
-
-        private void passNumber() {
-            kind = NUMBER;
+            kind = kindAt(from);
+            behind = kind == END ? from : from + 1;
             number = byteAt(from) - '0';
-            for (int n = 0; n < MOST_BYTES && isDigit(byteAt(behind)); n++) {
+            boolean grows = kind == WORD || kind == NUMBER;
+            for (int n = 0; n < MOST_BYTES && grows && kindAt(behind) == kind; n++) {
                 number = Math.min(LARGE, number * 10 + byteAt(behind) - '0');
                 behind++;
             }
@@ -1383,22 +1371,22 @@ public final class LostWood {
             links = new int[room];
         }
 
-        abstract int next(int state, int wind);
+        abstract int next(Wood wood, int state, int wind);
 
-        abstract boolean ends(int state);
+        abstract boolean ends(Wood wood, int state);
 
-        final void explore(int start) {
+        final void explore(Wood wood, int start) {
             round++;
             size = 0;
             goal = NONE;
             meetState(start, 0);
             for (int head = 0; head < size && head < found.length; head++) {
-                if (ends(found[head])) {
+                if (ends(wood, found[head])) {
                     goal = head;
                     return;
                 }
                 for (int wind = 0; wind < WINDS; wind++) {
-                    meetState(next(found[head], wind), head * WINDS + wind);
+                    meetState(next(wood, found[head], wind), head * WINDS + wind);
                 }
             }
         }
@@ -1447,15 +1435,13 @@ public final class LostWood {
         static final int ASTRAY = 2;
         static final int SURE = 3;
 
-        private final Wood wood;
         private final Walker walker = new Walker();
         private int turn;
         private int aim;
         private int least;
 
-        Minds(Wood wood) {
+        Minds() {
             super(MOST_PLACES * SETS);
-            this.wood = wood;
         }
 
         void aimAt(int newTurn, int newAim, int newLeast) {
@@ -1464,13 +1450,13 @@ public final class LostWood {
             least = newLeast;
         }
 
-        int next(int state, int wind) {
+        int next(Wood wood, int state, int wind) {
             walker.place(state / SETS, state % SETS, turn);
             walker.step(wood, wind);
             return walker.at * SETS + walker.thought;
         }
 
-        boolean ends(int state) {
+        boolean ends(Wood wood, int state) {
             walker.place(state / SETS, state % SETS, turn);
             switch (aim) {
                 case DOUBTING:
@@ -1490,36 +1476,34 @@ public final class LostWood {
         static final int SINGLE = 1;
         static final int UNLIKE = 2;
 
-        private final Wood wood;
         private int aim;
 
-        Sets(Wood wood) {
+        Sets() {
             super(SETS);
-            this.wood = wood;
         }
 
-        void seek(int set, int newAim) {
+        void seek(Wood wood, int set, int newAim) {
             aim = newAim;
-            explore(set);
+            explore(wood, set);
         }
 
-        int next(int state, int wind) {
+        int next(Wood wood, int state, int wind) {
             return wood.spread(state, wind);
         }
 
-        boolean ends(int state) {
+        boolean ends(Wood wood, int state) {
             switch (aim) {
                 case SINGLE:
                     return Integer.bitCount(state) == 1;
                 case UNLIKE:
-                    return !showsOne(state, 0);
+                    return !showsOne(wood, state, 0);
                 default:
                     return false;
             }
         }
 
         /** Whether a SET shows one mark alone, if the marks of some PLACES are taken away. */
-        private boolean showsOne(int set, int bare) {
+        private static boolean showsOne(Wood wood, int set, int bare) {
             int shown = NONE;
             for (int p = 0; p < wood.places; p++) {
                 if ((set >> p & 1) == 0) {
@@ -1534,17 +1518,17 @@ public final class LostWood {
             return true;
         }
 
-        boolean allShowOne(int bare) {
+        boolean allShowOne(Wood wood, int bare) {
             for (int i = 0; i < size && i < found.length; i++) {
-                if (!showsOne(found[i], bare)) {
+                if (!showsOne(wood, found[i], bare)) {
                     return false;
                 }
             }
             return true;
         }
 
-        int leastGathered(int set) {
-            seek(set, SINGLE);
+        int leastGathered(Wood wood, int set) {
+            seek(wood, set, SINGLE);
             int shortest = goalLength();
             if (shortest == NONE) {
                 return NONE;

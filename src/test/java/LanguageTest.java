@@ -6,8 +6,12 @@ import java.nio.file.Files;
 import java.nio.file.Path;
 import java.util.ArrayList;
 import java.util.List;
+import java.util.Map;
 import java.util.Set;
+import java.util.TreeMap;
 import java.util.TreeSet;
+import java.util.regex.Matcher;
+import java.util.regex.Pattern;
 
 /** What of LANGUAGE.md can be seen by a program: the face, words that are left out, the sizes of methods and classes. */
 public final class LanguageTest {
@@ -31,6 +35,8 @@ public final class LanguageTest {
             }
         }
         methodLengths(source);
+        constructors(code);
+        callDepths(code);
         Support.finish("LanguageTest");
     }
 
@@ -86,5 +92,54 @@ public final class LanguageTest {
                 }
             }
         }
+    }
+
+    /** Neither the object that is made nor a part of it is handed to what its constructor makes. */
+    private static void constructors(String code) {
+        Matcher made = Pattern.compile("\n {4}( {4})?(private )?final \\w+ \\w+ = new \\w+\\(([^)]*)\\)").matcher(code);
+        int n = 0;
+        while (made.find()) {
+            Support.due("rule 12: handed out: " + made.group().trim(), made.group(3).length(), 0);
+            n++;
+        }
+        Support.due("rule 12: parts found", n >= 10 ? 1 : 0, 1);
+        Support.due("rule 12: this as an argument", code.matches("(?s).*[(,] *this *[,)].*") ? 1 : 0, 0);
+    }
+
+    /** Methods of one name are taken as one, so the depth found is never below the true one. */
+    private static void callDepths(String code) {
+        Map<String, Set<String>> calls = new TreeMap<>();
+        String inside = "";
+        for (String line : code.split("\n")) {
+            Matcher head = Pattern.compile(" {4}(?: {4})?\\w[^=;]*?(\\w+)\\([^()]*\\) \\{").matcher(line);
+            if (head.matches()) {
+                inside = head.group(1);
+                calls.putIfAbsent(inside, new TreeSet<>());
+                continue;
+            }
+            Matcher call = Pattern.compile("(\\w+)\\(").matcher(line);
+            while (!inside.isEmpty() && call.find()) {
+                calls.get(inside).add(call.group(1));
+            }
+        }
+        int deepest = 0;
+        for (String name : calls.keySet()) {
+            deepest = Math.max(deepest, depth(name, calls, 0));
+        }
+        Support.due("rule 11: methods read", calls.size() >= 120 ? 1 : 0, 1);
+        Support.due("rule 11: calls go " + deepest + " deep", deepest <= 8 ? 1 : 0, 1);
+    }
+
+    private static int depth(String name, Map<String, Set<String>> calls, int above) {
+        int below = 0;
+        // Without recursion no row of calls is as long as this.
+        if (above < 30) {
+            for (String called : calls.get(name)) {
+                if (calls.containsKey(called)) {
+                    below = Math.max(below, depth(called, calls, above + 1));
+                }
+            }
+        }
+        return below + 1;
     }
 }
