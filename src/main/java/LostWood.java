@@ -1076,7 +1076,7 @@ public final class LostWood {
                 from++;
             }
             kind = kindAt(from);
-            behind = kind == END ? from : from + 1;
+            behind = from + 1;
             number = byteAt(from) - '0';
             boolean grows = kind == WORD || kind == NUMBER;
             for (int n = 0; n < MOST_BYTES && grows && kindAt(behind) == kind; n++) {
